@@ -120,6 +120,11 @@ public final class BoardTest {
         // All eight CASES are held thrice, by eighteen shares.
         due.is("18 eight", m.sure(), 300 - 18);
         due.is("19 eight", m.bundle(5), 3);
+        m.most(3, 1);
+        due.is("19 ahead of sure()", m.bundle(0), 1);
+        due.is("18 eight, less of one", m.sure(), 100 - 6);
+        m.most(3, 0);
+        due.is("18 none of one", m.sure(), 0);
     }
 
     private static void forecast() {

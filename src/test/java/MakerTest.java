@@ -51,6 +51,9 @@ public final class MakerTest {
             due.is("2 nothing changed", m.told(5), 1);
         }
         m.offer(1, 50, 2);
+        m.sheet(0, 0, 2);
+        m.put(0, 0, 1);
+        m.forecast(0, 0, 0, 0);
         m.comes(0);
         due.is("2 edges", m.begin(8, 1000), 1);
         due.is("2 N", m.told(0), 8);
@@ -63,6 +66,9 @@ public final class MakerTest {
         due.is("2 not come", m.maker(4), BetMaker.NONE);
         due.is("2 no bundle", m.sure(), 0);
         due.is("2 trader is gone", m.of(0, 0), Due.LOST);
+        due.is("2 offer is gone", m.bundle(0), BetMaker.UNKNOWN);
+        due.is("2 forecast is gone", m.score(0, 0), Due.LOST);
+        due.is("2 nothing is held against", m.held(0, 10, 0), 0);
         due.is("2 edges", m.begin(2, 1), 1);
         due.is("2 U", m.maker(3), 8);
         due.is("2 a trader anew", m.trader(0, 5), 0);
@@ -323,6 +329,12 @@ public final class MakerTest {
         m.deal(0, 4, -1);
         // All SOLD below 0: (-3, -3, -1): the least gain is with CASE 2.
         due.is("10 worst of those below 0", m.maker(2), m.maker(1) + 120);
+        for (int c = 0; c < 3; c++) {
+            m.begin(3, 10);
+            m.trader(0, 10000);
+            m.deal(0, 1 << c, 2);
+            due.is("10 worst is with CASE " + c, m.maker(2), m.maker(1) - 240);
+        }
     }
 
     private static void told() {

@@ -71,6 +71,8 @@ public final class TradersTest {
         due.is("12 STATE", m.believe(0, 0, 0), BetMaker.STATE);
         due.is("12 0 stays 0", m.believe(0, 1, 0), 0);
         due.is("12 unchanged", m.of(0, 20), 7);
+        due.is("12 the only weight, again", m.believe(0, 0, 7), 7);
+        due.is("12 another beside it", m.believe(0, 1, 7), 0);
         m.comes(0);
         due.is("12 after it came", m.believe(0, 0, 8), 7);
     }
@@ -94,7 +96,12 @@ public final class TradersTest {
         m.put(1, 4, -1);
         due.is("13 weight below", m.beliefs(0, 1, 1, 2), BetMaker.OUTSIDE);
         due.is("13 unchanged", m.of(0, 20), 4);
-        m.put(1, 0, 9);
+        m.put(1, 4, 1);
+        due.is("13 W 1", m.beliefs(0, 1, 1, 3), 1);
+        due.is("13 W 1", m.of(0, 21), 1);
+        m.put(1, 4, 0);
+        m.beliefs(0, 1, 1, 2);
+        m.put(1, 2, 9);
         due.is("13 a belief is no view of the sheet", m.of(0, 20), 4);
     }
 
@@ -171,6 +178,12 @@ public final class TradersTest {
         due.is("15 as good", m.worth(0, 1, 1), m.worth(0, 1, 2));
         due.is("15 nearest to 0", m.best(0, 1), 1);
         due.is("15 nearest to 0", m.best(0, 2), -1);
+        // U 8; weights 2, 1: 16 x - 3 (4 x + x x) = 4 x - 3 x x.
+        m.begin(2, 1);
+        m.trader(0, 100);
+        m.believe(0, 0, 2);
+        due.is("15 WORTH 1", m.worth(0, 1, 1), 1);
+        due.is("15 the least gain is one", m.best(0, 1), 1);
     }
 
     private static void bestIsNotBarred() {
