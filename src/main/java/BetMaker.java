@@ -55,6 +55,7 @@ public final class BetMaker {
         traderCount = 0;
         board.empty();
         forecasts.empty();
+        // All but SHEETS and TRACE: fault() is again as ahead of any call.
         latestFault = 0;
         return 1;
     }
