@@ -47,6 +47,7 @@ public final class BetMaker {
 
     // ---- 1 the maker
 
+    /** Leaves fault() as it is: that is told of calls, and this one names no FAULT. */
     public int begin(int n, int b) {
         if (n < 2 || n > MOST_CASES || b < 1 || b > MOST_B) {
             return OUTSIDE;
@@ -55,8 +56,6 @@ public final class BetMaker {
         traderCount = 0;
         board.empty();
         forecasts.empty();
-        // All but SHEETS and TRACE: fault() is again as ahead of any call.
-        latestFault = 0;
         return 1;
     }
 

@@ -82,10 +82,8 @@ public final class MakerTest {
         m.trader(0, 0);
         m.tell(0);
         m.put(2, 5, 1);
-        due.is("2 a refused one leaves the fault", m.begin(9, 9), BetMaker.OUTSIDE);
-        due.is("2 fault before", m.fault(), 3);
         m.begin(3, 7);
-        due.is("2 all else is anew, fault() too", m.fault(), 0);
+        due.is("2 names no fault, so fault() stays", m.fault(), 3);
         due.is("2 sheet is kept", m.at(2, 4, 1), 77);
         due.is("2 trace is kept", m.trace(), 1);
     }

@@ -128,7 +128,6 @@ final class Model {
         offers = new ArrayList<>();
         forecasts = new ArrayList<>();
         came = NONE;
-        fault = 0;
     }
 
     private void leave(int body) {

@@ -205,6 +205,11 @@ public final class SheetsTest {
         m.comes(0);
         due.is("32 stays", m.fault(), 1);
         due.is("32 stays", m.fault(), 1);
+        m.begin(9, 9);
+        due.is("32 stays over a refused begin()", m.fault(), 1);
+        m.begin(2, 1);
+        due.is("32 stays over begin()", m.fault(), 1);
+        m.trader(0, 100000);
         m.sheet(0, 0, 3);
         due.is("32 none", m.fault(), 0);
         m.put(0, 9, 9);
@@ -222,5 +227,9 @@ public final class SheetsTest {
         m.sheet(0, 0, -5);
         m.forecast(0, 0, 0, 0);
         due.is("32 none", m.fault(), 0);
+        m.sheet(0, 0, -5);
+        m.begin(2, 1);
+        m.as(0, 0);
+        due.is("32 none: begin() took the trader, so as() is refused", m.fault(), 0);
     }
 }
