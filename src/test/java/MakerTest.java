@@ -233,7 +233,7 @@ public final class MakerTest {
         BetMaker m = new BetMaker();
         m.begin(5, 300);
         m.trader(0, 100000000);
-        for (int k = 0; k < 60; k++) {
+        for (int k = 0; k < 40; k++) {
             int set = 1 + k * 7 % 30;
             int x = k * 37 % 91 - 45;
             long level = m.maker(0);

@@ -38,7 +38,13 @@ public final class RoomTest {
     private static void call(BetMaker m, int kind, int k) {
         switch (kind) {
             case 0 -> m.best(0, 1 + k % 254);
-            case 1 -> m.bundle(k % 2 == 0 ? k % 6 : m.most(k % 6, k % 4));
+            case 1 -> {
+                if (k % 2 == 0) {
+                    m.bundle(k % 6);
+                } else {
+                    m.most(k % 6, k % 4);
+                }
+            }
             case 2 -> m.forecast(0, 0, 0, k % 8);
             case 3 -> m.sheet(k % 4, k % 3, 24);
             default -> {
