@@ -550,7 +550,8 @@ public final class MakerEdgesTest {
         for (int n = 2; n <= 8; n++) {
             for (int b : new int[] {1, 10, 499}) {
                 BetMaker m = Scene.begun(n, b, Scene.MOST_PURSE);
-                // 2 B of one CASE: its PRICE is U, all others' are 0.
+                // 2 B of one CASE: its PRICE is U, all others' are 0. All PRICES are U together, so
+                // one above U is never without one below 0: no call tells the two apart.
                 for (int c = 0; c < n; c++) {
                     String of = n + " CASES, B " + b + ", CASE " + c;
                     due.is("just U: " + of, m.barred(0, 1 << c, 2 * b), 0);
