@@ -510,7 +510,7 @@ public final class BetMaker {
             return meet(fault);
         }
         int sum = 0;
-        for (int c = 0; c < maker.cases(); c++) {
+        for (int c = 0; c < maker.cases() && c < MOST_CASES; c++) {
             int weight = from.read(i + c);
             if (!isWeight(weight)) {
                 return OUTSIDE;
@@ -610,7 +610,7 @@ public final class BetMaker {
         }
 
         long soldOf(int c) {
-            return isCase(c) ? sold[c] : 0;
+            return isCase(c) && c < MOST_CASES ? sold[c] : 0;
         }
 
         long casePrice(int c) {
@@ -654,7 +654,7 @@ public final class BetMaker {
         }
 
         void sell(int set, int x, long paid) {
-            for (int c = 0; c < cases; c++) {
+            for (int c = 0; c < cases && c < MOST_CASES; c++) {
                 if (isIn(set, c)) {
                     sold[c] += x;
                     soldSum += x;
